@@ -81,11 +81,13 @@ public final class PaperBoys {
     private static final int SIGN_MORE = 2;
 
     private final Tape tape = new Tape();
-    private final City city = new City();
-    private final Market market = new Market(city);
-    private final Book book = new Book();
+    private final Market market = new Market();
+    private final City city = market.city;
+    private final Ledger ledger = new Ledger();
+    private final ArrayList<Terms> texts = new ArrayList<>();
+    private final Terms emptyText = new Terms();
     private final Reader reader = new Reader();
-    private final Ledger ledger = new Ledger(market);
+    private Terms draft = new Terms();
     private final Chances chances = new Chances();
     private final Route route = new Route();
     private Parting parting = new Parting();
@@ -207,10 +209,10 @@ public final class PaperBoys {
 
     public int terms(int from) {
         int answer = TERMS_REFUSED;
-        if (book.texts.size() < MOST_TERMS && isDay(from) && from >= today) {
-            reader.read(tape, book.draft);
+        if (texts.size() < MOST_TERMS && isDay(from) && from >= today) {
+            reader.read(tape, draft);
             fault = reader.fault;
-            answer = fault == 0 ? book.take(from) : -1 - reader.faultPlace;
+            answer = fault == 0 ? takeDraft(from) : -1 - reader.faultPlace;
         }
         tape.size = 0;
         return answer;
@@ -226,7 +228,7 @@ public final class PaperBoys {
             return NONE;
         }
         Bundle bundle = new Bundle(market.boys.get(b), paper, corner, copies, hour, today);
-        return market.buy(bundle, book.inForce(today)) ? market.bundles.size() - 1 : NONE;
+        return market.buy(bundle, inForce(today)) ? market.bundles.size() - 1 : NONE;
     }
 
     /** A told() that answers NONE was told by no LINE, so why() forgets the one ahead. */
@@ -236,7 +238,7 @@ public final class PaperBoys {
             return NONE;
         }
         Bundle bundle = market.bundles.get(k);
-        Terms text = book.inForce(bundle.day);
+        Terms text = inForce(bundle.day);
         market.learn(bundle);
         why = text.lineFor(what, market.facts);
         return text.numberOf(why, what);
@@ -251,7 +253,7 @@ public final class PaperBoys {
             return NONE;
         }
         market.startSums();
-        market.cryDay(today, book.inForce(today), true);
+        market.cryDay(today, inForce(today), true);
         today++;
         return market.soldSum;
     }
@@ -285,20 +287,20 @@ public final class PaperBoys {
     }
 
     public int counted(int paper, int corner, int day, int copies) {
-        if (ledger.counts.size() >= MOST_COUNTS || !isPaper(paper) || !isCorner(corner)
+        if (ledger.size >= MOST_COUNTS || !isPaper(paper) || !isCorner(corner)
                 || !within(day, 0, today - 1) || !within(copies, 0, MOST_COUNTED)) {
             return NONE;
         }
-        ledger.counts.add(new Count(paper, corner, day, copies, today));
-        return ledger.counts.size() - 1;
+        ledger.add(placeOf(day, paper, corner), copies, today);
+        return ledger.size - 1;
     }
 
     public int falseCounts(int t) {
-        return ledger.falseAsOf(t);
+        return ledger.falseAsOf(t, market);
     }
 
     public int shortOf(int t) {
-        return ledger.shortAsOf(t, today);
+        return ledger.shortAsOf(t, today, market);
     }
 
     public int best(int corner, int paper, int price, int cry, int back) {
@@ -317,14 +319,13 @@ public final class PaperBoys {
     }
 
     public int tried() {
-        Terms text = book.draft;
-        reader.read(tape, text);
+        reader.read(tape, draft);
         fault = reader.fault;
         tape.size = 0;
         if (fault != 0) {
             return TRIED_FAULT - reader.faultPlace;
         }
-        market.cryClosed(today, text);
+        market.cryClosed(today, draft);
         triedEaten = market.eatenSum;
         return market.gainSum;
     }
@@ -399,14 +400,34 @@ public final class PaperBoys {
             case 2:
                 return market.bundles.size();
             case 3:
-                return book.texts.size();
+                return texts.size();
             case 4:
-                return ledger.counts.size();
+                return ledger.size;
             case 5:
                 return tape.size;
             default:
                 return NONE;
         }
+    }
+
+    /** The draft stays as TERMS, and another one takes its place. */
+    private int takeDraft(int from) {
+        Terms taken = draft;
+        taken.from = from;
+        texts.add(taken);
+        draft = new Terms();
+        return taken.lines;
+    }
+
+    private Terms inForce(int day) {
+        Terms found = emptyText;
+        for (int i = 0; i < texts.size(); i++) {
+            Terms text = texts.get(i);
+            if (text.from <= day && text.from >= found.from) {
+                found = text;
+            }
+        }
+        return found;
     }
 
     /** Both lose in a week before it is asked whether the week ends the STRIKE. */
@@ -472,6 +493,11 @@ public final class PaperBoys {
 
     private static boolean isOfStrike(int n) {
         return within(n, 0, MOST_STRIKE);
+    }
+
+    /** One number for a DAY, PAPER and CORNER. */
+    private static int placeOf(int day, int paper, int corner) {
+        return (day * PAPERS + paper) * CORNERS + corner;
     }
 
     private static int costOf(int copies, int price) {
@@ -547,6 +573,7 @@ public final class PaperBoys {
         final int copies;
         final int hour;
         final int day;
+        final int place;
         int cost = 0;
         int sold = 0;
         int back = 0;
@@ -559,27 +586,7 @@ public final class PaperBoys {
             this.copies = copies;
             this.hour = hour;
             this.day = day;
-        }
-
-        boolean isFrom(int ofDay, int ofPaper, int ofCorner) {
-            return day == ofDay && paper == ofPaper && corner == ofCorner;
-        }
-    }
-
-    /** What a truck says; told is the DAY on which it was said. */
-    private static final class Count {
-        final int paper;
-        final int corner;
-        final int day;
-        final int copies;
-        final int told;
-
-        Count(int paper, int corner, int day, int copies, int told) {
-            this.paper = paper;
-            this.corner = corner;
-            this.day = day;
-            this.copies = copies;
-            this.told = told;
+            this.place = placeOf(day, paper, corner);
         }
     }
 
@@ -697,32 +704,6 @@ public final class PaperBoys {
                 return fact < value;
             }
             return sign == SIGN_MORE ? fact > value : fact == value;
-        }
-    }
-
-    /** The TERMS that were told, and the one that is being read. */
-    private static final class Book {
-        final ArrayList<Terms> texts = new ArrayList<>();
-        final Terms empty = new Terms();
-        Terms draft = new Terms();
-
-        int take(int from) {
-            Terms taken = draft;
-            taken.from = from;
-            texts.add(taken);
-            draft = new Terms();
-            return taken.lines;
-        }
-
-        Terms inForce(int day) {
-            Terms found = empty;
-            for (int i = 0; i < texts.size(); i++) {
-                Terms text = texts.get(i);
-                if (text.from <= day && text.from >= found.from) {
-                    found = text;
-                }
-            }
-            return found;
         }
     }
 
@@ -859,6 +840,7 @@ public final class PaperBoys {
             }
         }
 
+        /** Behind a FAULT it does no harm, for the first one stays. */
         private void expect(int due) {
             if (now() == due) {
                 at++;
@@ -941,17 +923,11 @@ public final class PaperBoys {
                     readFact(into, begin - FIRST_FACT);
                 } else if (begin == OPEN) {
                     readCond(into, depth + 1);
-                    expectIfWell(SHUT);
+                    expect(SHUT);
                 } else {
                     readOne(into, depth + 1);
                     into.addStep(STEP_NOT, 0, 0);
                 }
-            }
-        }
-
-        private void expectIfWell(int due) {
-            if (fault == 0) {
-                expect(due);
             }
         }
 
@@ -979,7 +955,7 @@ public final class PaperBoys {
 
     /** The BOYS, their BUNDLES, and how a DAY's BUNDLES are cried. */
     private static final class Market {
-        final City city;
+        final City city = new City();
         final ArrayList<Boy> boys = new ArrayList<>();
         final ArrayList<Bundle> bundles = new ArrayList<>();
         final ArrayList<Bundle> queue = new ArrayList<>();
@@ -987,10 +963,6 @@ public final class PaperBoys {
         int soldSum = 0;
         int gainSum = 0;
         int eatenSum = 0;
-
-        Market(City city) {
-            this.city = city;
-        }
 
         boolean hasBoy(int b) {
             return b >= 0 && b < boys.size();
@@ -1053,7 +1025,7 @@ public final class PaperBoys {
             int left = 0;
             for (int i = 0; i < queue.size(); i++) {
                 Bundle bundle = queue.get(i);
-                if (i == 0 || !queue.get(i - 1).isFrom(day, bundle.paper, bundle.corner)) {
+                if (i == 0 || queue.get(i - 1).place != bundle.place) {
                     left = city.askedOn(day, bundle.corner, bundle.paper);
                 }
                 left -= cryBundle(bundle, text, left, kept);
@@ -1115,74 +1087,71 @@ public final class PaperBoys {
             return city.owners[bundle.corner] == bundle.boy.number;
         }
 
-        int cameBack(int day, int paper, int corner) {
+        int cameBack(int place) {
             int sum = 0;
             for (int i = 0; i < bundles.size(); i++) {
                 Bundle bundle = bundles.get(i);
-                if (bundle.isFrom(day, paper, corner)) {
-                    sum += bundle.back;
-                }
+                sum += bundle.place == place ? bundle.back : 0;
             }
             return sum;
         }
 
-        /** Whether no BUNDLE ahead is of the same DAY, PAPER and CORNER. */
-        boolean isFirstThere(int k) {
-            if (!hasBundle(k)) {
-                return false;
-            }
-            Bundle bundle = bundles.get(k);
-            for (int i = 0; i < k; i++) {
-                if (bundles.get(i).isFrom(bundle.day, bundle.paper, bundle.corner)) {
-                    return false;
+        /** The first BUNDLE of a DAY, PAPER and CORNER. */
+        int firstAt(int place) {
+            for (int i = 0; i < bundles.size(); i++) {
+                if (bundles.get(i).place == place) {
+                    return i;
                 }
             }
-            return true;
+            return NONE;
         }
     }
 
-    /** The COUNTS, held against what came BACK. */
+    /** The COUNTS in rows by their numbers; told is the DAY on which a truck said one. */
     private static final class Ledger {
-        final Market market;
-        final ArrayList<Count> counts = new ArrayList<>();
+        final int[] place = new int[MOST_COUNTS];
+        final int[] copies = new int[MOST_COUNTS];
+        final int[] told = new int[MOST_COUNTS];
+        int size = 0;
 
-        Ledger(Market market) {
-            this.market = market;
+        void add(int countPlace, int countCopies, int today) {
+            if (size < MOST_COUNTS) {
+                place[size] = countPlace;
+                copies[size] = countCopies;
+                told[size] = today;
+                size++;
+            }
         }
 
-        int falseAsOf(int t) {
+        int falseAsOf(int t, Market market) {
             int sum = 0;
-            for (int i = 0; i < counts.size(); i++) {
-                Count count = counts.get(i);
-                if (lastAsOf(t, count.day, count.paper, count.corner) == i
-                        && count.copies > market.cameBack(count.day, count.paper, count.corner)) {
+            for (int i = 0; i < size; i++) {
+                if (lastAsOf(t, place[i]) == i && copies[i] > market.cameBack(place[i])) {
                     sum++;
                 }
             }
             return sum;
         }
 
-        int shortAsOf(int t, int today) {
+        int shortAsOf(int t, int today, Market market) {
             int sum = 0;
             for (int i = 0; i < market.bundles.size(); i++) {
                 Bundle bundle = market.bundles.get(i);
-                if (bundle.day < today && bundle.day <= t && market.isFirstThere(i)) {
-                    sum += shortThere(t, bundle.day, bundle.paper, bundle.corner);
+                if (bundle.day < today && bundle.day <= t && market.firstAt(bundle.place) == i) {
+                    sum += Math.max(0, market.cameBack(bundle.place) - countedAsOf(t, bundle.place));
                 }
             }
             return sum;
         }
 
-        private int shortThere(int t, int day, int paper, int corner) {
-            int last = lastAsOf(t, day, paper, corner);
-            int counted = last == NONE ? 0 : counts.get(last).copies;
-            return Math.max(0, market.cameBack(day, paper, corner) - counted);
+        private int countedAsOf(int t, int at) {
+            int last = lastAsOf(t, at);
+            return last == NONE ? 0 : copies[last];
         }
 
-        private int lastAsOf(int t, int day, int paper, int corner) {
-            for (int i = counts.size() - 1; i >= 0; i--) {
-                Count count = counts.get(i);
-                if (count.told <= t && count.day == day && count.paper == paper && count.corner == corner) {
+        private int lastAsOf(int t, int at) {
+            for (int i = size - 1; i >= 0; i--) {
+                if (told[i] <= t && place[i] == at) {
                     return i;
                 }
             }
