@@ -415,6 +415,9 @@ public final class PromisesTest {
         faultAt("price5;", 0, 1);
         faultAt("price 5x;", 6, 1);
         faultAt("price x5;", 6, 1);
+        faultAt("sellz;", 0, 1);
+        faultAt("sella;", 0, 1);
+        faultAt("price 90a;", 6, 1);
         faultAt("price 12345;", 6, 1);
         faultAt("price 1001;", 6, 2);
         faultAt("price 9999", 6, 2);
