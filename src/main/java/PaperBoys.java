@@ -1219,7 +1219,7 @@ public final class PaperBoys {
         final int[] cornerOf = new int[MOST];
         final int[] boyOf = new int[MOST];
         final int[] trial = new int[MOST];
-        final int[] atMost = new int[MOST + 1];
+        final int[] rest = new int[1 << MOST];
         final boolean[] sentAway = new boolean[MOST * MOST];
         final long[] clash = new long[MOST * MOST];
         int bestSum = NONE;
@@ -1323,17 +1323,26 @@ public final class PaperBoys {
 
         int partBest(int sum) {
             findClashes(sum);
-            atMost[n] = 0;
-            for (int boy = n - 1; boy >= 0; boy--) {
+            findRest();
+            bestSum = NONE;
+            place(0, 0, 0, 0L);
+            return bestSum;
+        }
+
+        /** The most that the BOYS behind can gain, by the set of CORNERS that those ahead have, fights or not. */
+        private void findRest() {
+            int all = (1 << n) - 1;
+            rest[all] = 0;
+            for (int taken = all - 1; taken >= 0; taken--) {
+                int boy = Integer.bitCount(taken);
                 int most = 0;
                 for (int corner = 0; corner < n; corner++) {
-                    most = Math.max(most, gain[boy * MOST + corner]);
+                    if ((taken >> corner & 1) == 0) {
+                        most = Math.max(most, gain[boy * MOST + corner] + rest[taken | 1 << corner]);
+                    }
                 }
-                atMost[boy] = atMost[boy + 1] + most;
+                rest[taken] = most;
             }
-            bestSum = NONE;
-            place(0, 0, 0L);
-            return bestSum;
         }
 
         /** The bits of clash are the places that cannot stand beside a place: the same CORNER, or a fight. */
@@ -1361,8 +1370,8 @@ public final class PaperBoys {
         }
 
         /** Lesser CORNERS are tried first, and only a greater sum takes the place of an earlier way. */
-        private void place(int boy, int sum, long barred) {
-            if (sum + atMost[boy] <= bestSum) {
+        private void place(int boy, int taken, int sum, long barred) {
+            if (sum + rest[taken] <= bestSum) {
                 return;
             }
             if (boy == n) {
@@ -1376,7 +1385,7 @@ public final class PaperBoys {
                 int at = boy * MOST + corner;
                 if ((barred >>> at & 1L) == 0L) {
                     trial[boy] = corner;
-                    place(boy + 1, sum + gain[at], barred | clash[at]);
+                    place(boy + 1, taken | 1 << corner, sum + gain[at], barred | clash[at]);
                 }
             }
         }

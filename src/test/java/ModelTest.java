@@ -319,7 +319,7 @@ public final class ModelTest {
 
     private void partingOrTruck() {
         if (below(3) == 0) {
-            int n = below(60) == 0 ? 7 : 1 + below(6);
+            int n = below(60) == 0 ? 7 + below(2) : 1 + below(6);
             int most = new int[] {2, 9, 255}[below(3)];
             tape(row(2 * n * n + (below(30) == 0 ? 1 : 0), most));
             int way = below(30) == 0 ? 2 : below(2);

@@ -505,6 +505,10 @@ public final class PromisesTest {
         faultAt("price" + " ".repeat(295) + "1001;", 300, 1);
         faultAt("x" + " ".repeat(419), 0, 1);
         faultAt("owe 5;" + " ".repeat(293) + "owe 5;", 299, 3);
+        faultAt("sell if not((((((((" + "(".repeat(401), 20, 4);
+        faultAt("sell if (" + ";".repeat(291), 9, 1);
+        faultAt(")".repeat(300), 0, 1);
+        faultAt(")".repeat(420), 0, 1);
     }
 
     private static void promise15Fault() {
