@@ -737,16 +737,15 @@ public final class PaperBoys {
         private void scan(Tape tape) {
             int end = Math.min(tape.size, MOST_BYTES);
             int tokens = 0;
-            int i = 0;
-            while (i < end) {
+            int behind = 0;
+            for (int i = 0; i < end; i++) {
                 int b = tape.bytes[i];
-                int behind = isOfName(b) ? nameEnd(tape, i) : i + 1;
-                if (b != ' ' && b != '\n') {
+                if (i >= behind && b != ' ' && b != '\n') {
+                    behind = isOfName(b) ? nameEnd(tape, i) : i + 1;
                     token[tokens] = isOfName(b) ? nameToken(tape, i, behind) : markToken(b);
                     place[tokens] = i;
                     tokens++;
                 }
-                i = behind;
             }
             token[tokens] = TEXT_END;
             place[tokens] = end;

@@ -1,10 +1,14 @@
 import java.nio.charset.StandardCharsets;
+import java.util.Arrays;
 import java.util.NoSuchElementException;
 
 /** What the tests share: comparing answers, and putting texts and rows on the tape. */
 final class Check {
+    private static final int PROMISES = 36;
+    private static final int[] told = new int[PROMISES + 1];
     private static int asked = 0;
     private static int wrong = 0;
+    private static String about = "";
 
     private Check() {
     }
@@ -13,7 +17,21 @@ final class Check {
         asked++;
         if (got != due) {
             wrong++;
-            System.out.println(what + " answered " + got + ", due is " + due);
+            System.out.println(about + what + " answered " + got + ", due is " + due);
+        }
+    }
+
+    /** What follows is a test of this promise, and of the sentence of it (or of "Terms") that is written out. */
+    static void promise(int number, String sentence) {
+        told[number]++;
+        about = "Promise " + number + " (" + sentence + "): ";
+    }
+
+    /** Each of these promises had a test. */
+    static void hadAll(int first, int last) {
+        about = "";
+        for (int number = first; number <= last; number++) {
+            yes("a test of promise " + number, told[number] > 0);
         }
     }
 
@@ -76,6 +94,31 @@ final class Check {
 
     static PaperBoys tape(PaperBoys x, int... numbers) {
         return tape(x, bytes(numbers));
+    }
+
+    static int terms(PaperBoys x, int from, String text) {
+        return tape(x, text).terms(from);
+    }
+
+    static int tried(PaperBoys x, String text) {
+        return tape(x, text).tried();
+    }
+
+    /** Drives to one or more corners, told as pairs of a corner and a minute. */
+    static int truck(PaperBoys x, int... pairs) {
+        int[] row = new int[20];
+        Arrays.fill(row, 255);
+        for (int i = 0; i < pairs.length; i += 2) {
+            row[2 * pairs[i]] = pairs[i + 1] / 256;
+            row[2 * pairs[i] + 1] = pairs[i + 1] % 256;
+        }
+        return tape(x, row).truck();
+    }
+
+    static void closeDays(PaperBoys x, int days) {
+        for (int i = 0; i < days; i++) {
+            same("close", x.close(), 0);
+        }
     }
 
     static void noCoin(PaperBoys x, int b) {
