@@ -4,7 +4,8 @@ import java.util.Random;
 /** Long runs of calls, drawn from a fixed seed, on PaperBoys and on the Model: every answer must be the same. */
 public final class ModelTest {
     private static final int RUNS = 400;
-    private static final int CALLS = 500;
+    /** The document promises 512 calls; the round of calls that goes on behind this number stays below them. */
+    private static final int CALLS = 460;
     private static final String[] PIECES = {"price ", "cry ", "back ", "most ", "sell ", "owe ", "if ", "not ", "and ",
         "or ", "school ", "badge ", "owner ", "age", "hour", "week", "day", "paper", "corner", "copies", "weather",
         "fists", "<", "=", ">", "(", ")", ";", " ", "\n", "5 ", "60 ", "1000 ", "1001 ", "9999 ", "10000", "x", "A"};
