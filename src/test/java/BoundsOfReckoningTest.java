@@ -44,6 +44,7 @@ public final class BoundsOfReckoningTest {
         listedLikeGains();
         listedLikeMights();
         listedSentAway();
+        listedWithTheMostAsking();
         listedHasPeace();
         bestPartingWithPeace();
         bestPartingTheFirst();
@@ -569,6 +570,23 @@ public final class BoundsOfReckoningTest {
         for (int k = 0; k < 4; k++) {
             Check.same("BOY " + k, x.partedAt(k), 3 - k);
         }
+    }
+
+    /** Eight BOYS ask 57 times, which is the most that can be: all are sent away by all but the last CORNERS they like. */
+    private static void listedWithTheMostAsking() {
+        Check.promise(29, "LISTED: each BOY without a CORNER asks, as long as there is one");
+        int[] row = {
+            6, 3, 4, 2, 7, 8, 1, 5, 8, 5, 2, 3, 7, 6, 1, 4, 8, 5, 4, 7, 2, 3, 1, 6, 6, 8, 7, 3, 4, 2, 1, 5,
+            2, 3, 5, 8, 6, 4, 1, 7, 2, 7, 8, 5, 6, 3, 1, 4, 3, 4, 8, 7, 5, 6, 1, 2, 8, 2, 3, 4, 7, 5, 1, 6,
+            4, 6, 6, 8, 2, 1, 7, 7, 1, 5, 8, 7, 1, 4, 6, 2, 2, 4, 5, 3, 8, 6, 5, 4, 6, 1, 4, 6, 7, 8, 8, 5,
+            8, 7, 3, 1, 6, 7, 4, 1, 7, 2, 1, 4, 5, 5, 3, 6, 5, 3, 2, 2, 3, 2, 1, 8, 3, 8, 7, 5, 4, 3, 2, 3};
+        int[] due = {3, 2, 4, 5, 0, 6, 7, 1};
+        PaperBoys x = new PaperBoys();
+        Check.same("seven gain 2, one gains 1", Check.tape(x, row).parted(8, 0, 0), 15);
+        for (int k = 0; k < 8; k++) {
+            Check.same("BOY " + k, x.partedAt(k), due[k]);
+        }
+        Check.same("PEACE", x.peace(1), 1);
     }
 
     /** Numbers that look like no rule's, and are the same in every run. */
