@@ -48,6 +48,7 @@ public final class BoundsOfReckoningTest {
         listedHasPeace();
         bestPartingWithPeace();
         bestPartingTheFirst();
+        bestPartingOfNoGains();
         bestPartingOfEight();
         partedAgainAndAgain();
         partedAtNoSuchBoy();
@@ -651,6 +652,18 @@ public final class BoundsOfReckoningTest {
         int[] due = {0, 2, 1};
         for (int k = 0; k < 3; k++) {
             Check.same("BOY " + k, x.partedAt(k), due[k]);
+        }
+    }
+
+    private static void bestPartingOfNoGains() {
+        Check.promise(29, "BEST: a sum of GAINS of 0 is one, too");
+        PaperBoys x = new PaperBoys();
+        for (int i = 0; i < 2; i++) {
+            Check.same("parted", Check.tape(x, 0, 9, 9, 0, 0, 0, 0, 0).parted(2, 1, 1), 18);
+            Check.same("BOY 0", x.partedAt(0), 1);
+            Check.same("no GAINS", Check.tape(x, new byte[8]).parted(2, 1, 1), 0);
+            Check.same("BOY 0", x.partedAt(0), 0);
+            Check.same("BOY 1", x.partedAt(1), 1);
         }
     }
 

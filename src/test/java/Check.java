@@ -27,6 +27,11 @@ final class Check {
         about = "Promise " + number + " (" + sentence + "): ";
     }
 
+    /** What follows is a test of the paragraph of "Terms" that begins with these words. */
+    static void paragraph(String words) {
+        about = "Terms (" + words + "): ";
+    }
+
     /** Each of these promises had a test. */
     static void hadAll(int first, int last) {
         about = "";
